@@ -106,19 +106,13 @@ public final class PointMill {
 
     public long count(int shape, int letter)
             throws IndexOutOfBoundsException, IllegalArgumentException, IllegalStateException {
-        Shape wanted = shapeOf(shape);
-        requireRange(letter, 0, MOST_LETTER);
-        requirePlace(wanted);
-        region.take(wanted, 1, letter);
+        takeWithLetter(shape, letter);
         return region.points();
     }
 
     public long countAnew(int shape, int letter)
             throws IndexOutOfBoundsException, IllegalArgumentException, IllegalStateException {
-        Shape wanted = shapeOf(shape);
-        requireRange(letter, 0, MOST_LETTER);
-        requirePlace(wanted);
-        region.take(wanted, 1, letter);
+        takeWithLetter(shape, letter);
         region.makeRowsColumns();
         return region.points();
     }
@@ -252,6 +246,13 @@ public final class PointMill {
         if (!shape.isClosed()) {
             throw new IllegalStateException("the shape is no place");
         }
+    }
+
+    private void takeWithLetter(int number, int letter) {
+        Shape wanted = shapeOf(number);
+        requireRange(letter, 0, MOST_LETTER);
+        requirePlace(wanted);
+        region.take(wanted, 1, letter);
     }
 
     private static void requireNoneOrMore(int place) {
@@ -476,7 +477,10 @@ public final class PointMill {
             return found;
         }
 
-        /** Two inequalities, one from above and one from below, tell together of columns alone. */
+        /**
+         * Two inequalities, one from above and one from below, tell together of columns alone. All
+         * columns with points are kept, maybe others too; those of a place have ends.
+         */
         private void findColumns() {
             firstColumn = -FAR;
             lastColumn = FAR;
@@ -499,8 +503,6 @@ public final class PointMill {
                 lastColumn = Math.min(lastColumn, Math.floorDiv(most, factor));
             } else if (factor < 0) {
                 firstColumn = Math.max(firstColumn, -Math.floorDiv(most, -factor));
-            } else if (most < 0) {
-                lastColumn = firstColumn - 1;
             }
         }
 

@@ -57,6 +57,8 @@ final class CoinsTest {
         check.equal("1000", 595, () -> some.ways(1000));
         check.equal("29", 0, () -> some.ways(29));
         check.equal("0", 1, () -> some.ways(0));
+        check.equal("1 after others", 0, () -> some.ways(1));
+        check.equal("7 after others", 0, () -> some.ways(7));
         check.equal("60 again", 6, () -> some.ways(60));
         check.equal("30", 3, () -> some.ways(30));
         check.equal("money", 292, () -> mill(1, 5, 10, 25, 50).ways(100));

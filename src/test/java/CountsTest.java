@@ -14,6 +14,7 @@ final class CountsTest {
         promise8And9MovesAndCuts();
         promise8And9Wide();
         promise8And9Order();
+        promise8To11Full();
         promise10Blown();
         promise10Order();
         promise11Best();
@@ -82,6 +83,22 @@ final class CountsTest {
         long blown = 2L * 9 * 99 + 1;
         check.equal("wide, blown", blown * blown, () -> mill.blown(0, 9, false));
         check.equal("wide, blown, inner", (blown - 2) * (blown - 2), () -> mill.blown(0, 9, true));
+    }
+
+    /** A shape with all its 10 inequalities. */
+    private static void promise8To11Full() {
+        PointMill mill = ShapesTest.mill(
+                1, 0, 3, 0, -1, 0, 2, 0, 0, 1, 1, 0, 0, -1, 4, 0, 1, 1, 9, 0, 1, -1, 9, 0, -1, 1, 9, 0, -1, -1, 9, 0,
+                2, 1, 9, 0, 1, 2, 4, 0);
+        counts("full", 35, 0, mill);
+        check.equal("full, a place", 1, () -> mill.isPlace(0) ? 1 : 0);
+        check.equal("full, blown", 35, () -> mill.blown(0, 1, false));
+        check.equal("full, inner", 16, () -> mill.blown(0, 1, true));
+        best("full, best", mill, 0, 1, 1, 3, 2, 1);
+        for (int move : new int[] {0, 1, 2, 0}) {
+            check.equal("full, move " + move, 10, () -> mill.move(0, move));
+            counts("full, move " + move, 35, 0, mill);
+        }
     }
 
     private static void promise8And9Order() {

@@ -1,4 +1,6 @@
-import java.util.Random;
+import java.lang.reflect.InvocationTargetException;
+import java.lang.reflect.Method;
+import java.util.Arrays;
 
 /** Long runs of calls, right and wrong ones, each compared with SlowMill. Each run has 512 calls. */
 final class RunsTest {
@@ -17,6 +19,8 @@ final class RunsTest {
     private static int wrong;
     private static int unknown;
     private static final int[][] told = new int[NAMES.length][4];
+    private static final Method[] FACE = methods(PointMill.class);
+    private static final Method[] SLOW = methods(SlowMill.class);
 
     public static void main(String[] args) {
         for (int run = 0; run < RUNS; run++) {
@@ -35,23 +39,23 @@ final class RunsTest {
     }
 
     private static void runOnce(int run) {
-        Random random = new Random(run);
+        Dice dice = new Dice(run);
         PointMill mill = new PointMill();
         SlowMill slow = new SlowMill();
         for (int call = 0; call < CALLS; call++) {
-            int name = name(random);
-            int[] parts = parts(name, run, random);
-            Object due = answer(() -> askSlow(slow, name, parts));
-            Object got = answer(() -> ask(mill, name, parts));
+            int name = name(dice);
+            int[] parts = parts(name, run, dice);
+            Object due = ask(slow, SLOW[name], parts);
+            Object got = ask(mill, FACE[name], parts);
             if (due.equals(SlowMill.UNKNOWN)) {
                 unknown++;
-                due = name == 9 ? got : answer(() -> askOtherWay(mill, name, parts));
+                due = NAMES[name].equals("best") ? got : (Object) askOtherWay(mill, NAMES[name], parts);
             }
             note(name, due);
             if (!got.equals(due)) {
                 wrong++;
                 System.out.println("run " + run + ", call " + call + ": " + NAMES[name]
-                        + java.util.Arrays.toString(parts) + " told " + got + ", due is " + due);
+                        + Arrays.toString(parts) + " told " + got + ", due is " + due);
             }
         }
     }
@@ -62,20 +66,12 @@ final class RunsTest {
         told[name][kind]++;
     }
 
-    private static Object answer(Check.Call call) {
-        try {
-            return call.answer();
-        } catch (RuntimeException thrown) {
-            return thrown.getClass();
-        }
-    }
-
-    private static int name(Random random) {
+    private static int name(Dice dice) {
         int sum = 0;
         for (int often : OFTEN) {
             sum += often;
         }
-        int left = random.nextInt(sum);
+        int left = dice.below(sum);
         int name = 0;
         while (left >= OFTEN[name]) {
             left -= OFTEN[name];
@@ -84,141 +80,130 @@ final class RunsTest {
         return name;
     }
 
-    private static int from(Random random, int least, int most) {
-        return least + random.nextInt(most - least + 1);
+    private static int from(Dice dice, int least, int most) {
+        return least + dice.below(most - least + 1);
     }
 
     /** Arguments in their ranges; now and then one that is far off. */
-    private static int[] parts(int name, int run, Random random) {
-        int[] p = rightParts(name, run, random);
-        if (p.length > 0 && random.nextInt(12) == 0) {
-            p[random.nextInt(p.length)] = FAR[random.nextInt(FAR.length)];
+    private static int[] parts(int name, int run, Dice dice) {
+        int[] p = rightParts(name, run, dice);
+        if (p.length > 0 && dice.below(12) == 0) {
+            p[dice.below(p.length)] = FAR[dice.below(FAR.length)];
         }
         return p;
     }
 
-    private static int[] rightParts(int name, int run, Random random) {
-        int shape = random.nextInt(8);
+    private static int[] rightParts(int name, int run, Dice dice) {
+        int shape = dice.below(8);
         // Runs of small shapes are those that SlowMill can count.
         int far = run % 3 == 0 ? 99 : 12;
-        int number = random.nextInt(6);
-        switch (name) {
-            case 1:
+        int number = dice.below(6);
+        switch (NAMES[name]) {
+            case "add":
                 return new int[] {
-                    shape, from(random, -9, 9), from(random, -9, 9), from(random, run % 5 == 0 ? -far : 0, far),
-                    random.nextInt(6) == 0 ? from(random, -9, 9) : 0
+                    shape, from(dice, -9, 9), from(dice, -9, 9), from(dice, run % 5 == 0 ? -far : 0, far),
+                    dice.below(6) == 0 ? from(dice, -9, 9) : 0
                 };
-            case 2:
+            case "cut":
                 return new int[] {
-                    shape, random.nextInt(4), random.nextInt(random.nextBoolean() ? 10 : 3),
-                    random.nextInt(4), random.nextInt(random.nextBoolean() ? 10 : 3),
-                    random.nextBoolean() ? 1 : from(random, 1, random.nextBoolean() ? 20 : 3)
+                    shape, dice.below(4), dice.below(dice.yes() ? 10 : 3),
+                    dice.below(4), dice.below(dice.yes() ? 10 : 3),
+                    dice.yes() ? 1 : from(dice, 1, dice.yes() ? 20 : 3)
                 };
-            case 3:
-                return new int[] {shape, random.nextInt(3)};
-            case 4:
-                return new int[] {shape, number, random.nextInt(4)};
-            case 5:
+            case "move":
+                return new int[] {shape, dice.below(3)};
+            case "inequality":
+                return new int[] {shape, number, dice.below(4)};
+            case "isPlace":
                 return new int[] {shape};
-            case 6:
-            case 7:
-                return new int[] {shape, random.nextInt(10)};
-            case 8:
-                return new int[] {shape, random.nextInt(10), random.nextInt(2)};
-            case 9:
+            case "count":
+            case "countAnew":
+                return new int[] {shape, dice.below(10)};
+            case "blown":
+                return new int[] {shape, dice.below(10), dice.below(2)};
+            case "best":
                 return new int[] {
-                    shape, random.nextInt(10), from(random, -99, 99), from(random, -99, 99), random.nextInt(3)
+                    shape, dice.below(10), from(dice, -99, 99), from(dice, -99, 99), dice.below(3)
                 };
-            case 10:
-                return vectors(random, 4);
-            case 11:
-            case 12:
-                return vectors(random, 6);
-            case 13:
-                return new int[] {random.nextBoolean() ? from(random, 1, 60) : from(random, 1, 10) * 6};
-            case 14:
-                return new int[] {from(random, 0, 1000)};
-            case 15:
-                return new int[] {random.nextBoolean() ? -1 : random.nextInt(30)};
-            case 17:
+            case "index":
+                return vectors(dice, 4);
+            case "generator":
+            case "generatorAnew":
+                return vectors(dice, 6);
+            case "coin":
+                return new int[] {dice.yes() ? from(dice, 1, 60) : from(dice, 1, 10) * 6};
+            case "ways":
+                return new int[] {from(dice, 0, 1000)};
+            case "gap":
+                return new int[] {dice.yes() ? -1 : dice.below(30)};
+            case "tables":
                 return new int[] {
-                    from(random, 0, 60), from(random, 0, 60), from(random, 0, 60), from(random, 0, 60)
+                    from(dice, 0, 60), from(dice, 0, 60), from(dice, 0, 60), from(dice, 0, 60)
                 };
             default:
                 return new int[0];
         }
     }
 
-    private static int[] vectors(Random random, int size) {
-        int most = random.nextBoolean() ? 20 : 5;
+    private static int[] vectors(Dice dice, int size) {
+        int most = dice.yes() ? 20 : 5;
         int[] p = new int[size];
         for (int i = 0; i < 4; i++) {
-            p[i] = from(random, -most, most);
+            p[i] = from(dice, -most, most);
         }
         if (size > 4) {
-            p[4] = from(random, -1, 6);
-            p[5] = random.nextInt(2);
+            p[4] = from(dice, -1, 6);
+            p[5] = dice.below(2);
         }
         return p;
     }
 
-    private static long ask(PointMill m, int name, int[] p) {
-        switch (name) {
-            case 0: return m.shape();
-            case 1: return m.add(p[0], p[1], p[2], p[3], p[4]);
-            case 2: return m.cut(p[0], p[1], p[2], p[3], p[4], p[5]);
-            case 3: return m.move(p[0], p[1]);
-            case 4: return m.inequality(p[0], p[1], p[2]);
-            case 5: return m.isPlace(p[0]) ? 1 : 0;
-            case 6: return m.count(p[0], p[1]);
-            case 7: return m.countAnew(p[0], p[1]);
-            case 8: return m.blown(p[0], p[1], p[2] == 1);
-            case 9: return m.best(p[0], p[1], p[2], p[3], p[4]);
-            case 10: return m.index(p[0], p[1], p[2], p[3]);
-            case 11: return m.generator(p[0], p[1], p[2], p[3], p[4], p[5] == 1);
-            case 12: return m.generatorAnew(p[0], p[1], p[2], p[3], p[4], p[5] == 1);
-            case 13: return m.coin(p[0]);
-            case 14: return m.ways(p[0]);
-            case 15: return m.gap(p[0]);
-            case 16: return m.greatestGap();
-            default: return m.tables(p[0], p[1], p[2], p[3]);
+    private static Method[] methods(Class<?> face) {
+        Method[] methods = new Method[NAMES.length];
+        for (int i = 0; i < NAMES.length; i++) {
+            methods[i] = method(face, NAMES[i]);
+        }
+        return methods;
+    }
+
+    private static Method method(Class<?> face, String name) {
+        for (Method method : face.getDeclaredMethods()) {
+            if (method.getName().equals(name)) {
+                return method;
+            }
+        }
+        throw new AssertionError(name);
+    }
+
+    /** The answer of the call as a Long, or the class of what it throws. */
+    private static Object ask(Object mill, Method method, int[] parts) {
+        Object[] arguments = new Object[parts.length];
+        for (int i = 0; i < parts.length; i++) {
+            boolean isNumber = method.getParameterTypes()[i] == int.class;
+            arguments[i] = isNumber ? (Object) parts[i] : (Object) (parts[i] == 1);
+        }
+        try {
+            Object answer = method.invoke(mill, arguments);
+            return answer instanceof Boolean ? ((Boolean) answer ? 1L : 0L) : ((Number) answer).longValue();
+        } catch (InvocationTargetException thrown) {
+            return thrown.getCause().getClass();
+        } catch (IllegalAccessException closed) {
+            throw new AssertionError(closed);
         }
     }
 
-    private static long askSlow(SlowMill m, int name, int[] p) {
+    /** The same count by rows for columns; of a blown one also by a move that is undone. */
+    private static long askOtherWay(PointMill mill, String name, int[] p) {
         switch (name) {
-            case 0: return m.shape();
-            case 1: return m.add(p[0], p[1], p[2], p[3], p[4]);
-            case 2: return m.cut(p[0], p[1], p[2], p[3], p[4], p[5]);
-            case 3: return m.move(p[0], p[1]);
-            case 4: return m.inequality(p[0], p[1], p[2]);
-            case 5: return m.isPlace(p[0]) ? 1 : 0;
-            case 6:
-            case 7: return m.count(p[0], p[1]);
-            case 8: return m.blown(p[0], p[1], p[2] == 1);
-            case 9: return m.best(p[0], p[1], p[2], p[3], p[4]);
-            case 10: return m.index(p[0], p[1], p[2], p[3]);
-            case 11:
-            case 12: return m.generator(p[0], p[1], p[2], p[3], p[4], p[5] == 1);
-            case 13: return m.coin(p[0]);
-            case 14: return m.ways(p[0]);
-            case 15: return m.gap(p[0]);
-            case 16: return m.greatestGap();
-            default: return m.tables(p[0], p[1], p[2], p[3]);
+            case "count":
+                return mill.countAnew(p[0], p[1]);
+            case "countAnew":
+                return mill.count(p[0], p[1]);
+            default:
+                mill.move(p[0], PointMill.SWAP);
+                long other = mill.blown(p[0], p[1], p[2] == 1);
+                mill.move(p[0], PointMill.SWAP);
+                return other;
         }
-    }
-
-    /** The same count, by rows for columns and after a move that keeps it and is undone. */
-    private static long askOtherWay(PointMill m, int name, int[] p) {
-        if (name == 6) {
-            return m.countAnew(p[0], p[1]);
-        }
-        if (name == 7) {
-            return m.count(p[0], p[1]);
-        }
-        m.move(p[0], PointMill.SWAP);
-        long other = m.blown(p[0], p[1], p[2] == 1);
-        m.move(p[0], PointMill.SWAP);
-        return other;
     }
 }

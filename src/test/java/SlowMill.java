@@ -89,6 +89,10 @@ final class SlowMill {
         return seen == null ? UNKNOWN : seen[0];
     }
 
+    long countAnew(int shape, int letter) {
+        return count(shape, letter);
+    }
+
     long blown(int shape, int times, boolean inner) {
         rows(shape);
         ask(within(times, 0, 9));
@@ -125,6 +129,10 @@ final class SlowMill {
             throw new IndexOutOfBoundsException();
         }
         return all.get(place)[first ? 0 : 1];
+    }
+
+    int generatorAnew(int x, int y, int v, int w, int place, boolean first) {
+        return generator(x, y, v, w, place, first);
     }
 
     int coin(int value) {

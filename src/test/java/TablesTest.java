@@ -1,26 +1,24 @@
 /** Promise 19: tables. */
 final class TablesTest {
     private static final Check check = new Check();
-    private static final PointMill mill = new PointMill();
 
     public static void main(String[] args) {
         promise19Tables();
         promise19AllSmall();
-        promise19Order();
         check.end();
     }
 
     private static void promise19Tables() {
-        check.equal("0", 1, () -> mill.tables(0, 0, 0, 0));
-        check.equal("5, 5, 3, 3", 14, () -> mill.tables(5, 5, 3, 3));
-        check.equal("2, 3, 1, 1", 4, () -> mill.tables(2, 3, 1, 1));
-        check.equal("a row of 0", 1, () -> mill.tables(5, 0, 2, 2));
-        check.equal("columns above rows", 0, () -> mill.tables(3, 3, 4, 3));
-        check.equal("columns just above", 0, () -> mill.tables(1, 1, 2, 1));
-        check.equal("a third column of 0", 61, () -> mill.tables(60, 60, 60, 60));
-        check.equal("40 each", 1261, () -> mill.tables(60, 60, 40, 40));
-        check.equal("rows of 0", 0, () -> mill.tables(0, 0, 60, 60));
-        check.equal("columns of 0", 1, () -> mill.tables(60, 60, 0, 0));
+        check.equal("0", 1, () -> Mills.any().tables(0, 0, 0, 0));
+        check.equal("5, 5, 3, 3", 14, () -> Mills.any().tables(5, 5, 3, 3));
+        check.equal("2, 3, 1, 1", 4, () -> Mills.any().tables(2, 3, 1, 1));
+        check.equal("a row of 0", 1, () -> Mills.any().tables(5, 0, 2, 2));
+        check.equal("columns above rows", 0, () -> Mills.any().tables(3, 3, 4, 3));
+        check.equal("columns just above", 0, () -> Mills.any().tables(1, 1, 2, 1));
+        check.equal("a third column of 0", 61, () -> Mills.any().tables(60, 60, 60, 60));
+        check.equal("40 each", 1261, () -> Mills.any().tables(60, 60, 40, 40));
+        check.equal("rows of 0", 0, () -> Mills.any().tables(0, 0, 60, 60));
+        check.equal("columns of 0", 1, () -> Mills.any().tables(60, 60, 0, 0));
     }
 
     private static int slowly(int one, int two, int first, int next) {
@@ -44,19 +42,10 @@ final class TablesTest {
                 for (int first : sums) {
                     for (int next : sums) {
                         check.equal("tables " + one + " " + two + " " + first + " " + next,
-                                slowly(one, two, first, next), () -> mill.tables(one, two, first, next));
+                                slowly(one, two, first, next), () -> Mills.any().tables(one, two, first, next));
                     }
                 }
             }
-        }
-    }
-
-    private static void promise19Order() {
-        for (int far : new int[] {-1, 61, Integer.MIN_VALUE, Integer.MAX_VALUE}) {
-            check.noArgument("one " + far, () -> mill.tables(far, 1, 1, 1));
-            check.noArgument("two " + far, () -> mill.tables(1, far, 1, 1));
-            check.noArgument("first " + far, () -> mill.tables(1, 1, far, 1));
-            check.noArgument("next " + far, () -> mill.tables(1, 1, 1, far));
         }
     }
 }

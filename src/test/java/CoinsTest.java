@@ -11,6 +11,7 @@ final class CoinsTest {
     }
 
     private static void promise15Coin() {
+        check.sentence("coin: Adds a coin, or takes it away. Returns how many there are then");
         PointMill mill = new PointMill();
         int[] values = {7, 33, 34, 59};
         for (int i = 0; i < values.length; i++) {
@@ -26,6 +27,7 @@ final class CoinsTest {
     }
 
     private static void promise16Ways() {
+        check.sentence("ways: Returns in how many ways a sum can be paid");
         PointMill some = Mills.withCoins(15, 6, 10);
         check.equal("60", 6, () -> some.ways(60));
         check.equal("900", 496, () -> some.ways(900));
@@ -41,6 +43,7 @@ final class CoinsTest {
     }
 
     private static void promise17Gap() {
+        check.sentence("gap: Returns a gap");
         PointMill mill = Mills.withCoins(4, 7);
         int[] gaps = {1, 2, 3, 5, 6, 9, 10, 13, 17};
         check.equal("how many", gaps.length, () -> mill.gap(PointMill.NONE));
@@ -54,6 +57,7 @@ final class CoinsTest {
     }
 
     private static void promise18GreatestGap() {
+        check.sentence("greatestGap: Returns the greatest gap");
         check.equal("6, 10, 15", 29, () -> Mills.withCoins(15, 6, 10).greatestGap());
         check.equal("60, 59, 7", 173, () -> Mills.withCoins(60, 59, 7).greatestGap());
         check.equal("4 and 7", 17, () -> Mills.withCoins(4, 7).greatestGap());

@@ -9,6 +9,7 @@ final class ConesTest {
     }
 
     private static void promise12Index() {
+        check.sentence("index: Returns the index of a cone");
         int[][] cones = {
             {1, 0, 0, 1, 1}, {0, 1, 1, 0, 1}, {1, 0, 3, 7, 7}, {2, 4, 6, 2, 5}, {20, 0, 0, -20, 1}, {-4, -8, 6, 2, 5},
             {20, -19, -20, 20, 1}, {-3, 5, 2, -7, 11}, {12, 9, -8, 14, 40}
@@ -19,6 +20,7 @@ final class ConesTest {
     }
 
     private static void promise13And14Generators() {
+        check.sentence("generator, generatorAnew: Returns how many generators a cone has, or a part of one");
         check.generators(Cones.of(0, 1, 1, 0), 0, 1, 1, 0);
         check.generators(Cones.of(0, -7, -9, 0), 0, -1, -1, 0);
         check.generators(Cones.of(1, 0, -1, 2), 1, 0, 0, 1, -1, 2);

@@ -17,6 +17,7 @@ final class CountsTest {
     }
 
     private static void promise8And9Counts() {
+        check.sentence("count: Counts the points of a shape; countAnew: Counts the same. Returns how many");
         check.counts("triangle", 19, 0, Mills.of(TRIANGLE));
         check.counts("square", 36, 0, Mills.of(SQUARE));
         check.counts("no points", 0, 0, Mills.of(EMPTY));
@@ -31,6 +32,7 @@ final class CountsTest {
     }
 
     private static void promise8And9Letters() {
+        check.sentence("a times x, and b times y, together, is at most c, and e times the letter, together");
         PointMill triangle = Mills.of(TRIANGLE);
         check.counts("triangle of 3", 27, 3, triangle);
         check.counts("triangle of 9", 48, 9, triangle);
@@ -45,6 +47,7 @@ final class CountsTest {
     }
 
     private static void promise8And9MovesAndCuts() {
+        check.sentence("cuts that lose none, moves that keep their number");
         PointMill mill = Mills.of(2, 2, 5, 0, -2, 2, 3, 0, 0, -1, 4, 0);
         check.counts("ahead of cuts", 42, 0, mill);
         mill.cut(0, 0, 1, 1, 1, 4);
@@ -60,6 +63,7 @@ final class CountsTest {
 
     /** Slides make the shape wide: its corners lie up to some thousand columns off. */
     private static void promise8And9Wide() {
+        check.sentence("cuts that lose none, moves that keep their number: of a wide shape");
         PointMill mill = Mills.of(1, 0, 99, 9, -1, 0, 99, 9, 0, 1, 99, 9, 0, -1, 99, 9);
         long due = 361 * 361;
         check.counts("ahead of moves", due, 9, mill);
@@ -74,6 +78,7 @@ final class CountsTest {
     }
 
     private static void promise10Blown() {
+        check.sentence("blown: Counts points of a shape that is blown up. Returns how many");
         PointMill triangle = Mills.of(TRIANGLE);
         long[] all = {1, 19, 61};
         long[] inner = {0, 7, 37};
@@ -100,6 +105,7 @@ final class CountsTest {
     }
 
     private static void promise11Best() {
+        check.sentence("best: Looks for the best point: p times x, and q times y, together, is greatest");
         PointMill triangle = Mills.of(TRIANGLE);
         check.best("1, 1", triangle, 0, 1, 1, 6, 6, 0);
         check.best("-5, 7 of 3", triangle, 3, -5, 7, 35, 0, 5);
@@ -113,6 +119,7 @@ final class CountsTest {
     }
 
     private static void promise11Ties() {
+        check.sentence("best: of several the least x, then the least y");
         PointMill square = Mills.of(SQUARE);
         check.best("0, 0", square, 0, 0, 0, 0, -2, -4);
         check.best("0, 1", square, 0, 0, 1, 1, -2, 1);

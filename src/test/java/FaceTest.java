@@ -1,7 +1,11 @@
+import java.io.IOException;
 import java.lang.reflect.Constructor;
 import java.lang.reflect.Field;
 import java.lang.reflect.Method;
 import java.lang.reflect.Modifier;
+import java.nio.charset.StandardCharsets;
+import java.nio.file.Files;
+import java.nio.file.Path;
 import java.util.Arrays;
 import java.util.HashSet;
 import java.util.Set;
@@ -10,6 +14,7 @@ import java.util.TreeSet;
 /** The public face, as the document has it, and the rule of the language about it. */
 final class FaceTest {
     private static final Check check = new Check();
+    private static final Path SOURCE = Path.of("src/main/java/PointMill.java");
     private static final String INDEX = "IndexOutOfBoundsException ";
     private static final String ARGUMENT = "IllegalArgumentException ";
     private static final String STATE = "IllegalStateException ";
@@ -34,11 +39,12 @@ final class FaceTest {
         "int tables(int,int,int,int) " + ARGUMENT
     };
 
-    public static void main(String[] args) {
+    public static void main(String[] args) throws IOException {
         classIsPublicAndFinal();
         methodsAreTheFace();
         constantsAreTheFace();
         innerClassesAreStatic();
+        sectionsAreTheFace();
         check.end();
     }
 
@@ -99,6 +105,24 @@ final class FaceTest {
             check.isTrue(field + " is final if static", !Modifier.isStatic(modifiers) || Modifier.isFinal(modifiers));
         }
         check.isTrue("constants " + open, open.equals(new TreeSet<>(Arrays.asList("NONE", "SWAP", "SLIDE", "FLIP"))));
+    }
+
+    private static void sectionsAreTheFace() throws IOException {
+        check.sentence("Ahead of the calls the interface says: ---- shapes; ---- cones; ---- coins, tables");
+        String[] due = {
+            "// ---- shapes", "shape", "add", "cut", "move", "inequality", "isPlace", "count", "countAnew", "blown",
+            "best",
+            "// ---- cones", "index", "generator", "generatorAnew",
+            "// ---- coins, tables", "coin", "ways", "gap", "greatestGap", "tables"
+        };
+        StringBuilder got = new StringBuilder();
+        for (String line : Files.readAllLines(SOURCE, StandardCharsets.UTF_8)) {
+            boolean isMethod = line.matches("    public (int|long|boolean) [a-zA-Z]+\\(.*");
+            boolean isHead = line.startsWith("    // ---- ") && !line.contains("arguments");
+            String told = isMethod ? line.substring(0, line.indexOf('(')) : line;
+            got.append(isMethod || isHead ? told.substring(isMethod ? told.lastIndexOf(' ') : 0).trim() + "; " : "");
+        }
+        check.same("sections", String.join("; ", due) + "; ", got.toString());
     }
 
     private static void innerClassesAreStatic() {

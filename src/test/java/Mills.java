@@ -1,5 +1,10 @@
 /** Mills for the tests, and numbers to ask them with. */
 final class Mills {
+    /** A call that is made on more than one mill. */
+    interface Ask {
+        long of(PointMill mill);
+    }
+
     /** An object serves 512 calls; one that is asked more often than this makes room for a new one. */
     private static final int MOST_CALLS = 500;
 

@@ -4,10 +4,6 @@
  * asked.
  */
 final class RefusalsTest {
-    interface Ask {
-        long of(PointMill mill);
-    }
-
     interface Recipe {
         PointMill make();
     }
@@ -17,15 +13,12 @@ final class RefusalsTest {
     private static final Class<IllegalArgumentException> ARGUMENT = IllegalArgumentException.class;
     private static final Class<IllegalStateException> STATE = IllegalStateException.class;
 
-    /** The shapes of a busy mill, and how many inequalities each has. */
-    private static final int TRIANGLE = 0, FULL = 1, NOTHING = 2, QUARTER = 3, NO_POINTS = 4, SHAPES = 5;
-    private static final int[] SIZES = {3, 10, 0, 2, 4};
-    private static final int[] NO_SHAPES = {-1, SHAPES, 7, 8, Integer.MIN_VALUE, Integer.MAX_VALUE, 1 << 16};
+    private static final int[] NO_SHAPES = {-1, Busy.SHAPES, 7, 8, Integer.MIN_VALUE, Integer.MAX_VALUE, 1 << 16};
 
     private static Recipe recipe;
 
     public static void main(String[] args) {
-        recipe = RefusalsTest::busy;
+        recipe = Busy::mill;
         promise2Shape();
         promise3Add();
         promise4CutOrder();
@@ -33,7 +26,7 @@ final class RefusalsTest {
         promise4CutEnds();
         promise5Move();
         promise5Slide();
-        recipe = RefusalsTest::busy;
+        recipe = Busy::mill;
         promise6Inequality();
         promise7IsPlace();
         promise8And9Counts();
@@ -49,24 +42,7 @@ final class RefusalsTest {
         check.end();
     }
 
-    /** A triangle with a letter, a full shape, one without inequalities, no place, a place without points; 6 coins. */
-    private static PointMill busy() {
-        PointMill mill = new PointMill();
-        for (int i = 0; i < SHAPES; i++) {
-            mill.shape();
-        }
-        Mills.add(mill, TRIANGLE, -1, 0, 0, 0, 0, -1, 0, 0, 2, 3, 12, 1);
-        Mills.add(mill, FULL, 1, 0, 3, 0, -1, 0, 2, 0, 0, 1, 1, 0, 0, -1, 4, 0, 1, 1, 9, 0);
-        Mills.add(mill, FULL, 1, -1, 9, 0, -1, 1, 9, 0, -1, -1, 9, 0, 2, 1, 9, 0, 1, 2, 4, 0);
-        Mills.add(mill, QUARTER, 1, 0, 5, 0, 0, 1, 5, 0);
-        Mills.add(mill, NO_POINTS, 1, 0, 5, 0, -1, 0, -6, 0, 0, 1, 5, 0, 0, -1, 5, 0);
-        for (int value : new int[] {6, 10, 15, 7, 59, 60}) {
-            mill.coin(value);
-        }
-        return mill;
-    }
-
-    private static void refused(String text, Class<? extends RuntimeException> due, Ask ask) {
+    private static void refused(String text, Class<? extends RuntimeException> due, Mills.Ask ask) {
         PointMill mill = recipe.make();
         check.thrown(text, due, () -> ask.of(mill));
         check.same(text + ", what it leaves", State.of(recipe.make()), State.of(mill));
@@ -94,7 +70,7 @@ final class RefusalsTest {
             refused("add wrong ones to " + shape, INDEX, mill -> mill.add(shape, 0, 0, 100, 10));
         }
         check.sentence("add: IllegalArgumentException if an argument is out of range, or a and b are both 0");
-        for (int shape : new int[] {TRIANGLE, NOTHING, FULL}) {
+        for (int shape : new int[] {Busy.TRIANGLE, Busy.NOTHING, Busy.FULL}) {
             for (int far : Mills.beyond(-9, 9)) {
                 refused("add a " + far, ARGUMENT, mill -> mill.add(shape, far, 1, 1, 1));
                 refused("add b " + far, ARGUMENT, mill -> mill.add(shape, 1, far, 1, 1));
@@ -106,7 +82,7 @@ final class RefusalsTest {
             refused("add 0 and 0", ARGUMENT, mill -> mill.add(shape, 0, 0, 1, 1));
         }
         check.sentence("add: IllegalStateException if there are 10");
-        refused("an eleventh one", STATE, mill -> mill.add(FULL, 1, 1, 1, 1));
+        refused("an eleventh one", STATE, mill -> mill.add(Busy.FULL, 1, 1, 1, 1));
     }
 
     private static void promise4CutOrder() {
@@ -115,9 +91,9 @@ final class RefusalsTest {
             refused("cut " + shape, INDEX, mill -> mill.cut(shape, 0, 1, 1, 1, 1));
             refused("cut wrongly " + shape, INDEX, mill -> mill.cut(shape, 0, 10, 1, -1, 0));
         }
-        for (int shape = 0; shape < SHAPES; shape++) {
+        for (int shape = 0; shape < Busy.SHAPES; shape++) {
             int asked = shape;
-            for (int number : new int[] {-1, SIZES[shape], 10, Integer.MIN_VALUE, Integer.MAX_VALUE}) {
+            for (int number : new int[] {-1, Busy.SIZES[shape], 10, Integer.MIN_VALUE, Integer.MAX_VALUE}) {
                 refused("cut, one " + number, INDEX, mill -> mill.cut(asked, number, 1, 0, 1, 1));
                 refused("cut, other " + number, INDEX, mill -> mill.cut(asked, 0, 1, number, 1, 1));
                 refused("cut, one 0 times " + number, INDEX, mill -> mill.cut(asked, number, 0, 0, 1, 1));
@@ -127,7 +103,7 @@ final class RefusalsTest {
             }
         }
         check.sentence("cut: IllegalArgumentException if some, more or by is out of range");
-        for (int shape : new int[] {FULL, TRIANGLE}) {
+        for (int shape : new int[] {Busy.FULL, Busy.TRIANGLE}) {
             for (int far : Mills.beyond(0, 9)) {
                 refused("cut, some " + far, ARGUMENT, mill -> mill.cut(shape, 2, far, 0, 1, 1));
                 refused("cut, more " + far, ARGUMENT, mill -> mill.cut(shape, 2, 1, 0, far, 1));
@@ -139,7 +115,7 @@ final class RefusalsTest {
             }
         }
         check.sentence("cut: IllegalStateException if there are 10");
-        refused("an eleventh one", STATE, mill -> mill.cut(FULL, 0, 1, 1, 2, 1));
+        refused("an eleventh one", STATE, mill -> mill.cut(Busy.FULL, 0, 1, 1, 2, 1));
     }
 
     private static void promise4Cut() {
@@ -197,7 +173,7 @@ final class RefusalsTest {
     }
 
     private static void promise5Move() {
-        recipe = RefusalsTest::busy;
+        recipe = Busy::mill;
         check.sentence("move: IndexOutOfBoundsException if there is no such shape");
         for (int shape : NO_SHAPES) {
             for (int move : new int[] {-1, 0, 1, 2, 3}) {
@@ -205,7 +181,7 @@ final class RefusalsTest {
             }
         }
         check.sentence("move: IllegalArgumentException if move is out of range");
-        for (int shape : new int[] {TRIANGLE, FULL, NOTHING}) {
+        for (int shape : new int[] {Busy.TRIANGLE, Busy.FULL, Busy.NOTHING}) {
             for (int move : Mills.beyond(0, 2)) {
                 refused("move " + move, ARGUMENT, mill -> mill.move(shape, move));
             }
@@ -247,9 +223,9 @@ final class RefusalsTest {
             refused("of shape " + shape, INDEX, mill -> mill.inequality(shape, 0, 0));
             refused("wrongly of shape " + shape, INDEX, mill -> mill.inequality(shape, -1, 4));
         }
-        for (int shape = 0; shape < SHAPES; shape++) {
+        for (int shape = 0; shape < Busy.SHAPES; shape++) {
             int asked = shape;
-            for (int number : new int[] {-1, SIZES[shape], 10, Integer.MIN_VALUE, Integer.MAX_VALUE, 1 << 16}) {
+            for (int number : new int[] {-1, Busy.SIZES[shape], 10, Integer.MIN_VALUE, Integer.MAX_VALUE, 1 << 16}) {
                 for (int what : new int[] {0, 3, -1, 4}) {
                     refused("inequality " + number, INDEX, mill -> mill.inequality(asked, number, what));
                 }
@@ -257,8 +233,8 @@ final class RefusalsTest {
         }
         check.sentence("inequality: IllegalArgumentException if what is out of range");
         for (int what : Mills.beyond(0, 3)) {
-            refused("what " + what, ARGUMENT, mill -> mill.inequality(TRIANGLE, 0, what));
-            refused("what " + what, ARGUMENT, mill -> mill.inequality(FULL, 9, what));
+            refused("what " + what, ARGUMENT, mill -> mill.inequality(Busy.TRIANGLE, 0, what));
+            refused("what " + what, ARGUMENT, mill -> mill.inequality(Busy.FULL, 9, what));
         }
     }
 
@@ -278,7 +254,7 @@ final class RefusalsTest {
             }
         }
         check.sentence("count, countAnew: IllegalArgumentException if letter is out of range");
-        for (int shape = 0; shape < SHAPES; shape++) {
+        for (int shape = 0; shape < Busy.SHAPES; shape++) {
             int asked = shape;
             for (int letter : Mills.beyond(0, 9)) {
                 refused("count by " + letter, ARGUMENT, mill -> mill.count(asked, letter));
@@ -286,7 +262,7 @@ final class RefusalsTest {
             }
         }
         check.sentence("count, countAnew: IllegalStateException if it is no place");
-        for (int shape : new int[] {NOTHING, QUARTER}) {
+        for (int shape : new int[] {Busy.NOTHING, Busy.QUARTER}) {
             for (int letter : new int[] {0, 9}) {
                 refused("count of " + shape, STATE, mill -> mill.count(shape, letter));
                 refused("countAnew of " + shape, STATE, mill -> mill.countAnew(shape, letter));
@@ -303,14 +279,14 @@ final class RefusalsTest {
                 }
             }
             check.sentence("blown: IllegalArgumentException if times is out of range");
-            for (int shape = 0; shape < SHAPES; shape++) {
+            for (int shape = 0; shape < Busy.SHAPES; shape++) {
                 int asked = shape;
                 for (int times : Mills.beyond(0, 9)) {
                     refused("blown by " + times, ARGUMENT, mill -> mill.blown(asked, times, inner));
                 }
             }
             check.sentence("blown: IllegalStateException if it is no place");
-            for (int shape : new int[] {NOTHING, QUARTER}) {
+            for (int shape : new int[] {Busy.NOTHING, Busy.QUARTER}) {
                 for (int times : new int[] {0, 1, 9}) {
                     refused("blown by " + times, STATE, mill -> mill.blown(shape, times, inner));
                 }
@@ -325,7 +301,7 @@ final class RefusalsTest {
             refused("best, wrongly, of " + shape, INDEX, mill -> mill.best(shape, 10, 100, -100, 3));
         }
         check.sentence("best: IllegalArgumentException if another argument is out of range");
-        for (int shape = 0; shape < SHAPES; shape++) {
+        for (int shape = 0; shape < Busy.SHAPES; shape++) {
             int asked = shape;
             for (int far : Mills.beyond(0, 9)) {
                 refused("best, letter " + far, ARGUMENT, mill -> mill.best(asked, far, 1, 1, 0));
@@ -339,7 +315,7 @@ final class RefusalsTest {
             }
         }
         check.sentence("best: IllegalStateException if it is no place, or has no points");
-        for (int shape : new int[] {NOTHING, QUARTER, NO_POINTS}) {
+        for (int shape : new int[] {Busy.NOTHING, Busy.QUARTER, Busy.NO_POINTS}) {
             for (int what = 0; what <= 2; what++) {
                 int asked = what;
                 refused("best of " + shape, STATE, mill -> mill.best(shape, 0, 1, 1, asked));
@@ -367,7 +343,7 @@ final class RefusalsTest {
         }
     }
 
-    private static Ask generator(boolean anew, int place, int... cone) {
+    private static Mills.Ask generator(boolean anew, int place, int... cone) {
         return mill -> Cones.ask(mill, anew, cone, place, true);
     }
 
@@ -403,7 +379,7 @@ final class RefusalsTest {
     }
 
     private static void promise15Coin() {
-        Recipe[] recipes = {RefusalsTest::busy, PointMill::new, () -> Mills.withCoins(1, 60)};
+        Recipe[] recipes = {Busy::mill, PointMill::new, () -> Mills.withCoins(1, 60)};
         check.sentence("coin: IllegalArgumentException if value is out of range");
         for (Recipe each : recipes) {
             recipe = each;
@@ -412,7 +388,7 @@ final class RefusalsTest {
             }
         }
         check.sentence("coin: IllegalStateException if there would be more than 6");
-        recipe = RefusalsTest::busy;
+        recipe = Busy::mill;
         for (int value : new int[] {1, 2, 5, 8, 58}) {
             refused("a seventh coin, " + value, STATE, mill -> mill.coin(value));
         }
@@ -420,7 +396,7 @@ final class RefusalsTest {
 
     private static void promise16Ways() {
         check.sentence("ways: IllegalArgumentException if sum is out of range");
-        Recipe[] recipes = {RefusalsTest::busy, PointMill::new};
+        Recipe[] recipes = {Busy::mill, PointMill::new};
         for (Recipe each : recipes) {
             recipe = each;
             for (int sum : Mills.beyond(0, 1000)) {
@@ -465,7 +441,7 @@ final class RefusalsTest {
     }
 
     private static void promise19Tables() {
-        recipe = RefusalsTest::busy;
+        recipe = Busy::mill;
         check.sentence("tables: IllegalArgumentException if one is out of range");
         for (int far : Mills.beyond(0, 60)) {
             for (int other : new int[] {0, 1, 60}) {

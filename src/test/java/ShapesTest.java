@@ -13,6 +13,7 @@ final class ShapesTest {
     }
 
     private static void promise3Add() {
+        check.sentence("add: Adds an inequality. Returns its number");
         PointMill mill = Mills.of();
         int[][] rows = {{4, -5, 60, 7}, {-1, 8, -31, -2}, {0, 1, 0, 0}, {1, 0, 5, -3}};
         for (int i = 0; i < rows.length; i++) {
@@ -26,6 +27,7 @@ final class ShapesTest {
     }
 
     private static void promise4Cut() {
+        check.sentence("cut: Cuts. Returns the number of the new inequality");
         PointMill mill = Mills.of(2, 2, 5, 0, -2, 2, 3, 0, 3, 0, -1, 0, 1, 2, 3, 4);
         check.equal("half of both", 4, () -> mill.cut(0, 0, 1, 1, 1, 4));
         check.inequality("half of both", mill, 4, 0, 1, 2, 0);
@@ -44,6 +46,7 @@ final class ShapesTest {
     }
 
     private static void promise5Move() {
+        check.sentence("SWAP, x and y change places; SLIDE, x becomes x and y together; FLIP, x becomes minus x");
         PointMill mill = Mills.of(2, -3, 7, 1, -1, 4, -6, -2);
         check.equal("swap", 2, () -> mill.move(0, PointMill.SWAP));
         check.inequality("swapped 0", mill, 0, -3, 2, 7, 1);
@@ -62,6 +65,7 @@ final class ShapesTest {
     }
 
     private static void promise6Inequality() {
+        check.sentence("inequality: Tells of an inequality. Returns as told");
         PointMill mill = Mills.of(1, -2, 3, -4);
         check.inequality("told", mill, 0, 1, -2, 3, -4);
         check.inequality("told again", mill, 0, 1, -2, 3, -4);
@@ -72,6 +76,7 @@ final class ShapesTest {
     }
 
     private static void promise7Places() {
+        check.sentence("isPlace: Returns whether a shape is a place");
         isPlace("triangle", true, -1, 0, 0, 0, 0, -1, 0, 0, 1, 1, 5, 0);
         isPlace("triangle without points", true, -1, 0, -9, 0, 0, -1, -9, 0, 1, 1, 5, 0);
         isPlace("square", true, 1, 0, 1, 0, -1, 0, 1, 0, 0, 1, 1, 0, 0, -1, 1, 0);
@@ -80,6 +85,7 @@ final class ShapesTest {
     }
 
     private static void promise7NoPlaces() {
+        check.sentence("isPlace: Returns whether a shape is a place: it is none");
         isPlace("nothing", false);
         isPlace("half a plane", false, 1, 1, 5, 0);
         isPlace("a strip", false, 1, 2, 5, 0, -1, -2, 5, 0);

@@ -9,6 +9,7 @@ final class TablesTest {
     }
 
     private static void promise19Tables() {
+        check.sentence("tables: Counts tables. Returns how many");
         check.equal("0", 1, () -> Mills.any().tables(0, 0, 0, 0));
         check.equal("5, 5, 3, 3", 14, () -> Mills.any().tables(5, 5, 3, 3));
         check.equal("2, 3, 1, 1", 4, () -> Mills.any().tables(2, 3, 1, 1));
@@ -36,6 +37,7 @@ final class TablesTest {
     }
 
     private static void promise19AllSmall() {
+        check.sentence("tables: Counts tables. Returns how many: compared with a slow count");
         int[] sums = {0, 1, 2, 3, 5, 8, 13, 31, 59, 60};
         for (int one : sums) {
             for (int two : sums) {
